@@ -1763,43 +1763,37 @@ public final class ManyPlaces {
                 link(SOURCE, FIRST_STEP + i, atOne - both);
                 link(FIRST_STEP + i, SINK, atZero - both);
                 int users = load.neededBy(i);
-                toUsersAtOne(FIRST_STEP + i, users, sheets.wordCost(sheet, 0, 1));
-                toUsersAtZero(FIRST_STEP + i, users, sheets.wordCost(sheet, 1, 0));
+                addGate(FIRST_STEP + i, users, sheets.wordCost(sheet, 0, 1), true);
+                addGate(FIRST_STEP + i, users, sheets.wordCost(sheet, 1, 0), false);
             }
             for (int i = 0; i < INPUTS; i++) {
                 int users = load.readersOf(i);
                 int at = sheets.inputPlace[i];
-                toUsersAtOne(SOURCE, users, sheets.wordCost(sheet, at, 1));
-                toUsersAtZero(SINK, users, sheets.wordCost(sheet, at, 0));
+                addGate(SOURCE, users, sheets.wordCost(sheet, at, 1), true);
+                addGate(SINK, users, sheets.wordCost(sheet, at, 0), false);
             }
         }
 
-        /** The price is paid if the node is on the source's side and some user on the sink's. */
-        private void toUsersAtOne(int node, int users, int price) {
+        /** The price is paid if the node is on the one side and some user on the other: at place 1, or at 0. */
+        private void addGate(int node, int users, int price, boolean usersAtOne) {
             if (users == 0 || price == 0 || nodes >= NODES) {
                 return;
             }
             int gate = nodes;
             nodes++;
-            link(node, gate, price);
+            linkEither(usersAtOne, node, gate, price);
             for (int i = 0; i < STEPS; i++) {
                 if (((users >> i) & 1) != 0) {
-                    link(gate, FIRST_STEP + i, NEVER);
+                    linkEither(usersAtOne, gate, FIRST_STEP + i, NEVER);
                 }
             }
         }
 
-        private void toUsersAtZero(int node, int users, int price) {
-            if (users == 0 || price == 0 || nodes >= NODES) {
-                return;
-            }
-            int gate = nodes;
-            nodes++;
-            link(gate, node, price);
-            for (int i = 0; i < STEPS; i++) {
-                if (((users >> i) & 1) != 0) {
-                    link(FIRST_STEP + i, gate, NEVER);
-                }
+        private void linkEither(boolean forward, int from, int to, int most) {
+            if (forward) {
+                link(from, to, most);
+            } else {
+                link(to, from, most);
             }
         }
 

@@ -21,7 +21,7 @@ public final class AgainstPlainTest {
     }
 
     public static void main(String[] args) {
-        int runs = args.length > 0 ? Integer.parseInt(args[0]) : 250;
+        int runs = args.length > 0 ? Integer.parseInt(args[0]) : 500;
         long first = args.length > 1 ? Long.parseLong(args[1]) : 1;
         for (int r = 0; r < runs; r++) {
             AgainstPlainTest run = new AgainstPlainTest(first + r);
@@ -69,7 +69,11 @@ public final class AgainstPlainTest {
     private void play() {
         int most = 40 + dice.nextInt(470);
         int style = dice.nextInt(3);
+        inputsUsed = dice.nextBoolean() ? 8 : 2;
         addText();
+        for (int i = dice.nextInt(2) * 60; i > 0; i--) {
+            setSomething(style);
+        }
         while (calls < most && !failed) {
             int kind = dice.nextInt(100);
             if (kind < 4) {
@@ -101,7 +105,7 @@ public final class AgainstPlainTest {
     private String atom(int depth, int room) {
         switch (dice.nextInt(depth < 6 ? 7 : 6)) {
             case 0: return Integer.toString(dice.nextInt(dice.nextBoolean() ? 4 : 1000));
-            case 1: return "$" + blank() + dice.nextInt(8);
+            case 1: return "$" + blank() + dice.nextInt(inputsUsed);
             case 2: return "#" + blank() + dice.nextInt(dice.nextBoolean() ? 3 : 8);
             case 6: return dice.nextInt(3) > 0 ? letter() : "(" + blank() + sum(depth + 1, room) + blank() + ")";
             default: return letter();
@@ -116,6 +120,7 @@ public final class AgainstPlainTest {
         return dice.nextInt(12) == 0 ? " " : "";
     }
 
+    private int inputsUsed = 8;
     private int linesLeft;
     private boolean pins;
 

@@ -128,7 +128,10 @@ public final class PromisesTest {
         due(2, "a refused feed leaves the tape", y.count(4), 239);
         due(2, "240 bytes", y.feed(0, 0x20, 0, 0, 0), 240);
         due(2, "nothing more still fits", y.feed(0, 0, 0, 0, 0), 240);
-        due(2, "241 bytes", y.feed(1, 0, 0, 0, 0), NONE);
+        for (int i = 0; i < 5; i++) {
+            due(2, "241 bytes, by number " + i,
+                y.feed(i == 0 ? 1 : 0, i == 1 ? 1 : 0, i == 2 ? 1 : 0, i == 3 ? 1 : 0, i == 4 ? 1 : 0), NONE);
+        }
         due(3, "end(241)", y.end(241), false);
         due(3, "end(-1)", y.end(-1), false);
         due(3, "end leaves the tape if it is refused", y.count(4), 240);
@@ -394,10 +397,14 @@ public final class PromisesTest {
         due(16, "barred by its @", x.barred(1, 3, 0), 0);
         due(16, "no laws help", x.barred(1, 3, 1), NONE);
         due(16, "k of 4", x.barred(1, 4, 0), NONE);
+        x.law(2, 1, 0);
+        x.law(3, 1, 0);
+        due(16, "barred from all four", x.barred(0, 4, 0), 2);
+        due(16, "by the lowest law that helps", x.barred(0, 4, 1), 1);
         due(22, "free with one place", x.free(0, 1), 0);
         due(22, "free with two", x.free(0, 2), 1);
         due(22, "free with three", x.free(0, 3), 1);
-        due(22, "free with four", x.free(0, 4), 3);
+        due(22, "free with four", x.free(0, 4), 2);
         due(22, "k of 0", x.free(0, 0), NONE);
         due(22, "k of 5", x.free(0, 5), NONE);
         due(22, "text 2", x.free(2, 2), NONE);
