@@ -323,7 +323,7 @@ public final class ManyPlaces {
             return NONE;
         }
         laws.judge(t);
-        if (laws.freeSteps(t, 2) > MOST_FREE_BETTER) {
+        if (laws.nowhere(t, 2) != NONE || laws.freeSteps(t, 2) > MOST_FREE_BETTER) {
             return NONE;
         }
         loads[0].ofText(t);
@@ -1672,15 +1672,12 @@ public final class ManyPlaces {
             }
         }
 
-        /** Lists the lawful cuts with places 0 and 1 by their numbers: how many. */
+        /** Lists the lawful cuts with places 0 and 1 by their numbers: how many; none of the steps is barred from both. */
         private int listCuts(int steps, int[] allowed) {
             int found = 1;
             cuts[0] = 0;
             for (int i = 0; i < steps; i++) {
                 int places = allowed[i] & 3;
-                if (places == 0) {
-                    return 0;
-                }
                 if (places == 3 && found <= cuts.length / 2) {
                     System.arraycopy(cuts, 0, cuts, found, found);
                     addPlaceOne(i, found, found * 2);

@@ -908,7 +908,7 @@ final class Plain {
             }
         }
         if (i == NONE) {
-            return kept.size();
+            return kept.isEmpty() ? NONE : kept.size();
         }
         return in(i, 0, kept.size() - 1) ? kept.get(i) : NONE;
     }

@@ -90,6 +90,7 @@ public final class PromisesTest {
         leastOfTies();
         workedTwice();
         betterCuts();
+        betterWithoutCuts();
         costs();
         days();
         leastDays();
@@ -483,7 +484,7 @@ public final class PromisesTest {
         due(23, "barred", x.least(0, 0, 2), NONE);
         due(24, "barred", x.twice(0, 0, 2), NONE);
         due(30, "barred", x.leastDay(0, 0, 2), NONE);
-        due(25, "barred: there are no cuts", x.better(0, -1), 0);
+        due(25, "barred", x.better(0, -1), NONE);
         due(25, "barred: no first", x.better(0, 0), NONE);
     }
 
@@ -559,6 +560,26 @@ public final class PromisesTest {
         due(25, "the third sheet counts: 1 is dearer there", x.better(0, -1), 4);
         x.work(0, 0, 1);
         due(25, "and 0 is as cheap or cheaper everywhere", x.better(0, -1), 1);
+    }
+
+    private static void betterWithoutCuts() {
+        ManyPlaces x = with("@2!1", "!1;?1{@3a=2};!a", "@1!$0;!2", "a=$0;!1", "#0=$0;!#0", "a=$0-$1;!2");
+        due(25, "an @ outside: how many", x.better(0, -1), NONE);
+        due(25, "an @ outside: no first", x.better(0, 0), NONE);
+        due(25, "an @ outside within a block", x.better(1, -1), NONE);
+        due(25, "no law as yet", x.better(2, -1), 2);
+        x.secret(0, 3);
+        x.law(1, 3, 2);
+        due(25, "an @ where a law bars", x.better(2, -1), NONE);
+        due(25, "a law at 1 alone leaves the second step both", x.better(3, -1), 2);
+        x.law(0, 3, 0);
+        due(25, "laws at both", x.better(3, -1), NONE);
+        due(25, "laws at both, by what is read alone", x.better(5, -1), NONE);
+        due(25, "laws at both, by a cell", x.better(4, -1), NONE);
+        due(25, "laws at both, no first", x.better(4, 0), NONE);
+        x.secret(0, -1);
+        due(25, "the secret is none any more", x.better(3, -1), 2);
+        due(25, "the @ is still outside", x.better(0, -1), NONE);
     }
 
     private static void costs() {
