@@ -67,16 +67,52 @@ public final class SearchTest {
         return b.append("}".repeat(open)).toString();
     }
 
-    private void set(int n, int free, int k) {
-        String s = text(n, free, k);
-        for (int i = 0; i < 1000 && s.length() > 240; i++) {
-            s = text(n, free, k);
+    /** Each letter is given once and read often: a wall through it is found only by taking back what went before. */
+    private String tangle(int n) {
+        StringBuilder b = new StringBuilder();
+        for (int i = 0; i < n; i++) {
+            int given = Math.min(i, 8);
+            int pinned = dice.nextInt(8);
+            b.append(i == 0 ? "" : ";").append(pinned < 2 ? "@" + pinned : "");
+            b.append(given == i && i < 8 ? (char) ('a' + i) + "=" : "!");
+            for (int j = dice.nextInt(3) + 2; j > 0; j--) {
+                boolean letter = given > 0 && dice.nextInt(3) > 0;
+                b.append(letter ? "" + (char) ('a' + dice.nextInt(given)) : "$" + dice.nextInt(8));
+                b.append(j > 1 ? "+" : "");
+            }
         }
+        return b.toString();
+    }
+
+    private void setTangle(int n) {
+        String s = tangle(n);
+        for (int i = 0; i < 1000 && s.length() > 240; i++) {
+            s = tangle(n);
+        }
+        begin(s);
+        for (int i = 0; i < 8; i++) {
+            x.put(0, i, dice.nextInt(2));
+        }
+        for (int p = 0; p < 2; p++) {
+            x.work(0, p, dice.nextInt(30));
+            x.word(0, p, 1 - p, dice.nextInt(100));
+        }
+    }
+
+    private void begin(String s) {
         x = new ManyPlaces();
         feed(s);
         if (x.text() != 0) {
             throw new IllegalStateException(s);
         }
+    }
+
+    private void set(int n, int free, int k) {
+        String s = text(n, free, k);
+        for (int i = 0; i < 1000 && s.length() > 240; i++) {
+            s = text(n, free, k);
+        }
+        begin(s);
         int work = new int[] {1, 4, 30, 99}[dice.nextInt(4)];
         int word = new int[] {3, 12, 60, 999}[dice.nextInt(4)];
         for (int sheet = 0; sheet < 3; sheet++) {
@@ -159,11 +195,21 @@ public final class SearchTest {
             Math.min(0, x.price(0, x.least(0, sheet, l), sheet) - Math.max(0, x.twice(0, sheet, l))), 0);
     }
 
+    private void playTangles(long seed) {
+        for (int i = 0; i < 5; i++) {
+            int n = 10 + dice.nextInt(3);
+            setTangle(n);
+            same("least of two places, tangled", seed, x.least(0, 0, 2), first(n, 2, cut -> x.price(0, cut, 0)));
+        }
+    }
+
     public static void main(String[] args) {
         int rounds = args.length > 0 ? Integer.parseInt(args[0]) : 120;
         long first = args.length > 1 ? Long.parseLong(args[1]) : 1;
         for (int r = 0; r < rounds; r++) {
-            new SearchTest(first + r).play(first + r, r);
+            SearchTest test = new SearchTest(first + r);
+            test.play(first + r, r);
+            test.playTangles(first + r);
         }
         System.out.println(rounds + " rounds of searches find what listing all cuts finds");
     }
