@@ -1837,12 +1837,12 @@ public final class ManyPlaces {
         private void pour() {
             int most = NEVER;
             int node = SOURCE;
-            for (int i = 0; i < NODES && node != SINK; i++) {
+            for (int i = 0; i < NODES && node != SINK && onward[node] != NONE; i++) {
                 most = Math.min(most, room[onward[node]]);
                 node = toNode[onward[node]];
             }
             node = SOURCE;
-            for (int i = 0; i < NODES && node != SINK; i++) {
+            for (int i = 0; i < NODES && node != SINK && onward[node] != NONE; i++) {
                 int side = onward[node];
                 room[side] -= most;
                 room[side ^ 1] += most;

@@ -21,6 +21,8 @@ final class EdgesOfCuts {
         leastBounds();
         leastTold();
         leastTies();
+        leastWordsOnce();
+        soughtAgain();
         twiceBounds();
         twiceTold();
         twiceKinds();
@@ -378,6 +380,61 @@ final class EdgesOfCuts {
         Edges.due("likewise with four", x.least(2, 1, 4), Edges.cut(0, 0, 1));
     }
 
+    private static void leastWordsOnce() {
+        Edges.says("of LAWFUL CUTS with these that with the least PRICE");
+        for (int k = 2; k <= 4; k++) {
+            ManyPlaces x = Edges.with("a=1;@1!a;@1!a", "@1!$0;!$0", "!$0;@1!$0", "?1{@1!1;@1!1}", "@1!#0;!#0", "a=1;@1b=a;c=a+a;@1!b+c");
+            x.work(0, 1, 11);
+            x.work(0, 2, 50);
+            x.work(0, 3, 50);
+            x.day(1);
+            // At 0 it is 1 and one word, at 1 it is 11; two words would be more.
+            Edges.due("as dear: one word for two steps", x.least(0, 0, k), Edges.cut(0, 1, 1));
+            Edges.due("of a ?, too", x.least(3, 0, k), Edges.cut(0, 1, 1));
+            Edges.due("by a day, too", x.leastDay(0, 0, k), Edges.cut(0, 1, 1));
+            Edges.due("of a ? by a day, too", x.leastDay(3, 0, k), Edges.cut(0, 1, 1));
+            x.work(0, 1, 10);
+            Edges.due("cheaper at 1", x.least(0, 0, k), Edges.cut(1, 1, 1));
+            Edges.due("by a day, too", x.leastDay(0, 0, k), Edges.cut(1, 1, 1));
+            x.work(0, 0, 12);
+            // The input comes to 1 once, whoever reads it there; a cell would come twice.
+            Edges.due("an input that comes there in any case", x.least(1, 0, k), Edges.cut(1, 1));
+            Edges.due("for a step behind", x.least(2, 0, k), Edges.cut(1, 1));
+            Edges.due("by a day, too", x.leastDay(1, 0, k), Edges.cut(1, 1));
+            Edges.due("a cell comes for each step", x.least(4, 0, k), Edges.cut(1, 0));
+            Edges.due("by a day, too", x.leastDay(4, 0, k), Edges.cut(1, 0));
+            // All at 1 is 10 for each weight; c at 0 would be 24 and a word more.
+            Edges.due("a net of four", x.least(5, 0, k), Edges.cut(1, 1, 1, 1));
+            x.work(0, 0, 0);
+            // a and c at 0 for nothing and two words are 20; both at 1 would be 30, and so would one of them.
+            Edges.due("a net of four, 0 for nothing", x.least(5, 0, k), Edges.cut(0, 1, 0, 1));
+        }
+    }
+
+    private static void soughtAgain() {
+        Edges.says("An object is used for at most 512 calls after it has been made");
+        ManyPlaces x = Edges.with("a=$0;b=a+$1;c=b+a;d=c+$2;e=d+c+b;f=e+a;g=f+e;h=g+$3;a=h+g;b=a+h;c=b+a;d=c+b;e=d+c;f=e+d;g=f+$4;@1!g",
+            "a=$0;b=a+$1;@2!b;@1!a");
+        for (int i = 0; i < 8; i++) {
+            x.put(0, i, 2 + i % 2);
+        }
+        x.work(0, 0, 2);
+        x.work(0, 2, 9);
+        x.word(0, 2, 1, 50);
+        x.word(0, 3, 1, 50);
+        x.word(0, 0, 1, 3);
+        x.day(2);
+        // By the words of the inputs the steps stand at 0, and the last one has its letter from there.
+        long chain = 1L << 30;
+        for (int i = 0; i < 95; i++) {
+            Edges.due("least of two, time " + i, x.least(0, 0, 2), chain);
+            Edges.due("least of three", x.least(1, 0, 3), Edges.cut(0, 0, 2, 1));
+            Edges.due("worked twice", x.twice(1, 0, 3), 2 + 4 + 9 + 1 + 10 + 10 + 10 + 3);
+            Edges.due("better", x.better(0, NONE), NONE);
+            Edges.due("least of a day", x.leastDay(1, 0, 3), Edges.cut(0, 0, 2, 1));
+        }
+    }
+
     private static void twiceBounds() {
         Edges.says("WORKED TWICE: the least PRICE. NONE likewise.");
         ManyPlaces x = Edges.with("!1", "@2!1", "@3!1", "!$0");
@@ -474,6 +531,11 @@ final class EdgesOfCuts {
         Edges.none("9 free, the first", x.better(3, 0));
         Edges.due("what is free with four alone is not counted", x.better(0, NONE), 256);
         Edges.none("9 others are", x.better(1, NONE));
+        ManyPlaces y = Edges.with(reading(8));
+        y.secret(0, 0);
+        y.law(1, 0, 0);
+        Edges.due("what is free with three alone is not counted", y.better(0, NONE), 256);
+        Edges.due("which is one more", y.free(0, 3), 9);
         Edges.due("steps with an @ are not counted", x.better(4, NONE), 256);
         Edges.due("the last of them", x.better(4, 255), Edges.cut(1, 1, 1, 1, 1, 1, 1, 1, 0, 1));
     }
@@ -517,8 +579,12 @@ final class EdgesOfCuts {
         y.put(1, 1, 1);
         y.put(1, 2, 1);
         Edges.due("what is not done gets no inputs and no cells, and gives none", y.cost(0, 0, 0), 2);
+        Edges.due("the price has them all", y.price(0, 0, 0), 5 + 30);
+        Edges.due("the cost still not", y.cost(0, 0, 0), 2);
         y.lay(0, 1);
         Edges.due("what is done does", y.cost(0, 0, 0), 5 + 30);
+        y.lay(0, 0);
+        Edges.due("and then it does not", y.cost(0, 0, 0), 2);
     }
 
     private static void costOfBlocks() {

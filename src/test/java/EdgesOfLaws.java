@@ -24,6 +24,7 @@ final class EdgesOfLaws {
         barredFewest();
         barredByNoLaws();
         frees();
+        lawfuls();
     }
 
     private static void puts() {
@@ -347,5 +348,26 @@ final class EdgesOfLaws {
         Edges.due("three", x.free(1, 3), 2);
         Edges.due("four", x.free(1, 4), 3);
         Edges.due("barred or not, it is told", x.free(1, 1), 0);
+    }
+
+    private static void lawfuls() {
+        Edges.says("LAWFUL is a CUT, if each STEP MAY be where it is.");
+        for (int i = 0; i < 16; i++) {
+            String text = (Edges.lines(16) + ";").substring(0, 3 * i) + "@1!1" + (i == 15 ? "" : ";" + Edges.lines(15 - i));
+            ManyPlaces x = Edges.with(text);
+            Edges.due("step " + i + " alone is where it may not be", x.lawful(0, 0), 0);
+            Edges.due("step " + i + " alone is at its place", x.lawful(0, 1L << (2 * i)), 1);
+            Edges.due("all are at 1", x.lawful(0, Edges.allAt(1, 16)), 1);
+            Edges.due("barred with one place", x.barred(0, 1, 0), i);
+            Edges.none("no laws help", x.barred(0, 1, 1));
+            x.law(0, 0, 0);
+            Edges.none("nor if there are some", x.barred(0, 1, 1));
+        }
+        ManyPlaces y = Edges.with(Edges.lines(15) + ";!$0");
+        y.secret(0, 0);
+        y.law(0, 0, 0);
+        Edges.due("the sixteenth step by a law", y.lawful(0, 0), 0);
+        Edges.due("that is the one that must go", y.barred(0, 1, 1), 1);
+        Edges.due("not lawful, but it has a price", y.price(0, 0, 0), 16);
     }
 }

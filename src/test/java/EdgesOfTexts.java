@@ -289,6 +289,31 @@ final class EdgesOfTexts {
         Edges.feed(x, "x");
         Edges.due("a fault", x.fault(), 0);
         Edges.due("the text that is there stays", x.step(0, 0, 3), 1);
+        nothingStays();
+    }
+
+    /** What was read of a tape that came to no text is not to be found in the text that comes then. */
+    private static void nothingStays() {
+        ManyPlaces x = new ManyPlaces();
+        Edges.feed(x, "@3?$7+#7*h{#6=$6+#6-g;@2?$5{@1a=$4}};a=9;!$3~");
+        for (int i = 0; i < 40; i++) {
+            Edges.due("a fault, again and again", x.fault(), 44);
+        }
+        Edges.none("no text", x.text());
+        x.end(0);
+        Edges.feed(x, "a=1;!2;!3;!4;!a");
+        Edges.due("a text then", x.text(), 0);
+        int[][] due = {{0, 0, NONE, 1, NONE, 0, 0, 0, 0}, {2, NONE, NONE, 1, NONE, 0, 0, 0, 0}, {2, NONE, NONE, 1, NONE, 0, 0, 0, 0},
+            {2, NONE, NONE, 1, NONE, 0, 0, 0, 0}, {2, NONE, NONE, 1, NONE, 0, 0, 1, 0}};
+        for (int i = 0; i < due.length; i++) {
+            for (int what = 0; what < 9; what++) {
+                Edges.due("step " + i + ", what " + what, x.step(0, i, what), due[i][what]);
+            }
+        }
+        Edges.due("steps", x.steps(0), 5);
+        Edges.due("an ask", x.ask(0, 0), 4);
+        Edges.due("its first number", x.shown(0, 0), 2);
+        Edges.due("its last number", x.shown(0, 3), 1);
     }
 
     private static void textsFull() {

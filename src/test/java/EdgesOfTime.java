@@ -5,6 +5,7 @@ final class EdgesOfTime {
     private static final int NONE = Edges.NONE;
     private static final int LEAST = Edges.LEAST;
     private static final int MOST = Edges.MOST;
+    private static final long[] SEEDS = {0, 1, -1, 2, Long.MIN_VALUE, Long.MAX_VALUE, 1L << 33, -(1L << 33), 6364136223846793005L, 123456789012345L};
 
     private EdgesOfTime() {
     }
@@ -23,6 +24,7 @@ final class EdgesOfTime {
         partsKept();
         turnsOfSeeds();
         turnsThatWait();
+        turnsThatWaitForTheFirst();
         partsOfCells();
         partsPassed();
         onBounds();
@@ -227,6 +229,13 @@ final class EdgesOfTime {
         x.length(1, 0, 99);
         // Cell 1, which nobody gave, comes by 99; cell 0 was given by 11.
         Edges.due("a cell that nobody gave is later than one that was given", x.led(4, Edges.cut(2, 3, 0), NONE), 1);
+        ManyPlaces y = Edges.with("#0=1;!$0", "a=1;!$0");
+        y.put(0, 0, 3);
+        y.length(3, 2, 11);
+        // The cell that was given at 1 would be had at 2 by 1, 5 and 5; but it is not read.
+        Edges.due("a cell that is not read leads to nothing", y.led(0, Edges.cut(1, 2), NONE), 1);
+        y.length(3, 2, 6);
+        Edges.due("nor does a V", y.led(1, Edges.cut(1, 2), NONE), 1);
     }
 
     private static void partBounds() {
@@ -324,8 +333,6 @@ final class EdgesOfTime {
         return turns;
     }
 
-    private static final long[] SEEDS = {0, 1, -1, 2, Long.MIN_VALUE, Long.MAX_VALUE, 1L << 33, -(1L << 33), 6364136223846793005L, 123456789012345L};
-
     private static void turnsOfSeeds() {
         Edges.says("(64 bits, going round)");
         int[] place = new int[16];
@@ -360,6 +367,26 @@ final class EdgesOfTime {
             Edges.due("cell 0 ahead of step 6", x.part(2, 0), 3);
             Edges.due("cell 0 ahead of step 6", x.part(1, 0), 3);
             Edges.due("cell 1", x.part(1, 1), 0);
+        }
+    }
+
+    private static void turnsThatWaitForTheFirst() {
+        Edges.says("of which one gives it");
+        // Two that read one cell do not wait for one another; one that gives it waits, and is waited for.
+        String[] texts = {"#7=1;!#7;!#7", "!#7;#7=1;!2", "!#7;!#7;!#7", "#7=1;#7=2;!3", "#7=#6;#6=1;!#7"};
+        int[][][] waitsFor = {{{}, {0}, {0}}, {{}, {0}, {}}, {{}, {}, {}}, {{}, {0}, {}}, {{}, {0}, {0}}};
+        int[][] places = {{0, 1, 2}, {2, 1, 0}, {3, 3, 0}, {1, 0, 3}};
+        for (int t = 0; t < texts.length; t++) {
+            ManyPlaces x = Edges.with(texts[t]);
+            for (long seed : SEEDS) {
+                for (int[] place : places) {
+                    x.parts(0, Edges.cut(place), seed);
+                    int[] turns = turnsOf(seed, place, waitsFor[t]);
+                    for (int i = 0; i < 3; i++) {
+                        Edges.due(texts[t] + ", seed " + seed + ", turn " + i, x.turn(i), turns[i]);
+                    }
+                }
+            }
         }
     }
 

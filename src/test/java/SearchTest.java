@@ -99,6 +99,30 @@ public final class SearchTest {
         }
     }
 
+    /** Each step but the last is needed, and each input comes from neither place: the wall has all the gates it can. */
+    private void setNet() {
+        StringBuilder b = new StringBuilder("a=$0");
+        for (int i = 1; i < 16; i++) {
+            int pinned = dice.nextInt(12);
+            b.append(';').append(pinned < 2 ? "@" + pinned : "").append((char) ('a' + i % 8)).append('=');
+            b.append((char) ('a' + (i - 1) % 8)).append("+$").append(i % 8);
+            if (dice.nextInt(3) == 0) {
+                b.append("*").append((char) ('a' + dice.nextInt(8)));
+            }
+        }
+        begin(b.toString());
+        for (int i = 0; i < 8; i++) {
+            x.put(0, i, 2 + dice.nextInt(2));
+        }
+        int most = 4 << dice.nextInt(5);
+        for (int p = 0; p < 4; p++) {
+            x.work(0, p, 1 + dice.nextInt(20));
+            for (int q = 0; q < 4; q++) {
+                x.word(0, p, q, 1 + dice.nextInt(most));
+            }
+        }
+    }
+
     private void begin(String s) {
         x = new ManyPlaces();
         feed(s);
@@ -203,6 +227,11 @@ public final class SearchTest {
         }
     }
 
+    private void playNet(long seed) {
+        setNet();
+        same("least of two places, all gates", seed, x.least(0, 0, 2), first(16, 2, cut -> x.price(0, cut, 0)));
+    }
+
     public static void main(String[] args) {
         int rounds = args.length > 0 ? Integer.parseInt(args[0]) : 120;
         long first = args.length > 1 ? Long.parseLong(args[1]) : 1;
@@ -210,6 +239,7 @@ public final class SearchTest {
             SearchTest test = new SearchTest(first + r);
             test.play(first + r, r);
             test.playTangles(first + r);
+            test.playNet(first + r);
         }
         System.out.println(rounds + " rounds of searches find what listing all cuts finds");
     }
