@@ -538,6 +538,14 @@ final class EdgesOfCuts {
         Edges.due("which is one more", y.free(0, 3), 9);
         Edges.due("steps with an @ are not counted", x.better(4, NONE), 256);
         Edges.due("the last of them", x.better(4, 255), Edges.cut(1, 1, 1, 1, 1, 1, 1, 1, 0, 1));
+        ManyPlaces z = Edges.with(Edges.lines(8) + ";@1!1".repeat(8), "@1!1;".repeat(8) + Edges.lines(8));
+        Edges.due("16 steps, 8 free", z.better(0, NONE), 256);
+        Edges.due("the first of them", z.better(0, 0), Edges.allAt(1, 8) << 16);
+        Edges.due("the last of them", z.better(0, 255), Edges.allAt(1, 16));
+        Edges.due("the first, with the free ones behind", z.better(1, 0), Edges.allAt(1, 8));
+        Edges.due("the second", z.better(1, 1), Edges.allAt(1, 8) + (1L << 16));
+        Edges.due("the last", z.better(1, 255), Edges.allAt(1, 16));
+        Edges.none("none more", z.better(1, 256));
     }
 
     private static void betterTies() {

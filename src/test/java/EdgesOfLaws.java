@@ -16,6 +16,7 @@ final class EdgesOfLaws {
         lawsFull();
         numbersOfLaws();
         needsAlone();
+        eachNeedAlone();
         madeOf();
         allLaws();
         mays();
@@ -176,6 +177,38 @@ final class EdgesOfLaws {
         Edges.due("a cell given in its block", y.may(1, 2, 2), 0);
         Edges.due("a step that needs nothing of it", y.may(2, 1, 2), 1);
         Edges.due("one that does", y.may(2, 2, 2), 0);
+    }
+
+    private static int mayLast(String text) {
+        ManyPlaces x = Edges.with(text);
+        for (int i = 0; i < 8; i++) {
+            x.secret(i, i < 6 ? 0 : NONE);
+        }
+        x.law(0, 0, 2);
+        return x.may(0, x.steps(0) - 1, 0);
+    }
+
+    /** One need of one input bars a step, whatever its number is, though all it needs together is made of two. */
+    private static void eachNeedAlone() {
+        Edges.says("and what each of its NEEDS is MADE OF alone (an INPUT of itself)");
+        for (int s = 0; s <= 13; s++) {
+            String ahead = "!1;".repeat(s);
+            Edges.due("step " + s + " of one", mayLast(ahead + "a=$0;b=$0+$1;!a+b"), 0);
+            Edges.due("step " + s + " of two", mayLast(ahead + "a=$0+$1;b=$0+$1;!a+b"), 1);
+            Edges.due("step " + (s + 1) + " of one", mayLast(ahead + "b=$0+$1;a=$0;!a+b"), 0);
+            Edges.due("the ? around, step " + (s + 1) + ", of one", mayLast(ahead + "b=$0+$1;?$0{!b}"), 0);
+            Edges.due("the ? around, step " + (s + 1) + ", of two", mayLast(ahead + "b=$0+$1;?$0+$1{!b}"), 1);
+        }
+        Edges.due("the ? around, step 0, of one", mayLast("?$0{b=$0+$1;!b}"), 0);
+        Edges.due("the ? around, step 0, of two", mayLast("?$0+$1{b=$0+$1;!b}"), 1);
+        for (int c = 0; c < 8; c++) {
+            Edges.due("cell " + c + " of one", mayLast("#" + c + "=$0;b=$0+$1;!#" + c + "+b"), 0);
+            Edges.due("cell " + c + " of two", mayLast("#" + c + "=$0+$1;b=$0+$1;!#" + c + "+b"), 1);
+            Edges.due("cell " + c + " of none", mayLast("#" + c + "=$7;b=$0+$1;!#" + c + "+b"), 1);
+        }
+        for (int i = 0; i < 8; i++) {
+            Edges.due("input " + i, mayLast("b=$0+$1+$2;!b+$" + i), i < 6 ? 0 : 1);
+        }
     }
 
     private static void madeOf() {
